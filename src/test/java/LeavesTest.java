@@ -335,6 +335,11 @@ public final class LeavesTest {
         x.set(1, 6, 0x80000000L);
         check.due("equal: 0 and -0", x.equal(0, 1), 0);
         x.set(1, 6, 0);
+        x.set(0, 4, 1);
+        x.set(1, 5, 1);
+        check.due("equal: the same VALUE in another FIELD", x.equal(0, 1), 0);
+        x.set(0, 4, 0);
+        x.set(1, 5, 0);
         x.row(1, 0);
         check.due("equal: a row of none", x.equal(0, 1), 0);
         for (int s : Check.NO_SLOTS) {
