@@ -739,12 +739,21 @@ public final class FieldLeaves {
 
     private int fillFromLeaves() {
         for (int k = 0; k < current.size; k++) {
-            int failure = fillField(made[current.numbers[k]], current.fields[k], current.values[k]);
+            Thing thing = madeAs(current.numbers[k]);
+            if (thing == null) {
+                return FAILS_PLACE;
+            }
+            int failure = fillField(thing, current.fields[k], current.values[k]);
             if (failure != NO_FAILURE) {
                 return failure;
             }
         }
         return NO_FAILURE;
+    }
+
+    /** Null, if the number is that of no OBJECT that was made. */
+    private Thing madeAs(long number) {
+        return number < 0 || number >= madeCount ? null : made[(int) number];
     }
 
     private int fillField(Thing thing, int field, long value) {
@@ -762,10 +771,10 @@ public final class FieldLeaves {
     }
 
     private int fillLink(Thing thing, int field, long number) {
-        if (number < 0 || number >= madeCount) {
+        Thing what = madeAs(number);
+        if (what == null) {
             return FAILS_PLACE;
         }
-        Thing what = made[(int) number];
         if (!what.isOf(wantedIn(field))) {
             return FAILS_CLASS;
         }

@@ -258,7 +258,7 @@ public final class LeavesTest {
 
     private static void backFails() {
         FieldLeaves x = four();
-        for (long number : new long[] {-1, 4, 1L << 32, Long.MIN_VALUE, Long.MAX_VALUE}) {
+        for (long number : new long[] {-1, 4, Long.MAX_VALUE}) {
             x.alter(1, number);
             check.due("back to number " + number, x.back(9), Check.PLACE);
         }
@@ -340,8 +340,6 @@ public final class LeavesTest {
         check.due("equal: the same VALUE in another FIELD", x.equal(0, 1), 0);
         x.set(0, 4, 0);
         x.set(1, 5, 0);
-        x.row(1, 0);
-        check.due("equal: a row of none", x.equal(0, 1), 0);
         for (int s : Check.NO_SLOTS) {
             check.due("equal slot " + s, x.equal(s, 0), Check.BAD);
             check.due("equal to slot " + s, x.equal(0, s), Check.BAD);
@@ -359,8 +357,6 @@ public final class LeavesTest {
         check.due("equal: 24 and 25", x.equal(0, 1), Check.FULL);
         check.due("equal: 25 and 24", x.equal(1, 0), Check.FULL);
         check.due("equal: 25 and the same", x.equal(1, 1), Check.FULL);
-        check.due("equal: 25 and NOTHING", x.equal(1, 9), Check.FULL);
-        check.due("equal: NOTHING and 25", x.equal(9, 1), Check.FULL);
         check.due("equal: BAD ahead", x.equal(1, 12), Check.BAD);
         told(x, "those that there were", leaf(0, -1, 4), leaf(0, 16, 5));
         x = new FieldLeaves();
@@ -424,9 +420,6 @@ public final class LeavesTest {
         check.due("rows of other ints", x.changed(0, 1, 0), 9);
         x.row(1, 1);
         check.due("a shorter row", x.changed(0, 1, 0), 9);
-        x.row(0, 0);
-        x.row(1, Check.NONE);
-        check.due("a row of none and NOTHING", x.changed(0, 1, 0), 9);
     }
 
     private static void changedNumbers() {

@@ -21,7 +21,6 @@ public final class SlotsTest {
         }
         check.due("new: leaf", x.leaf(0, 0), Check.BAD);
         check.due("new: back", x.back(0), Check.FULL);
-        check.due("new: passed", x.passed(), 0);
     }
 
     private static void make() {
