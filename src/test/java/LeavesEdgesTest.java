@@ -13,12 +13,16 @@ public final class LeavesEdgesTest {
         notFoundYet();
         leavesInOrder();
         leavesThatAreNotZero();
+        leavesOfLinks();
         leavesOfRows();
         roomForObjects();
         roomForLeaves();
         roomForBoth();
         madeThroughMakers();
         madeWithoutLeaves();
+        madeByLowestBits();
+        madeWithRows();
+        madeWithLinks();
         leavesInPlace();
         leavesBad();
         leavesFail();
@@ -143,6 +147,26 @@ public final class LeavesEdgesTest {
         x.set(0, 1, 256);
         x.set(0, 3, 65536);
         check.due("leaves of what became 0 again", x.leaves(0), 1);
+    }
+
+    private static void leavesOfLinks() {
+        check.says(Check.TERMS, "of 8, 11, 15 the number of the OBJECT");
+        FieldLeaves x = new FieldLeaves();
+        x.make(10, Check.BASE, 0);
+        x.share(10, 0);
+        for (int i = 1; i < 24; i++) {
+            x.make(11, Check.BASE, 0);
+            x.link(11, 8, 0);
+            x.share(11, 0);
+        }
+        x.link(10, 8, 0);
+        check.due("leaves of a ring of 24", x.leaves(0), 48);
+        for (int number = 0; number < 24; number++) {
+            check.due("what " + number + " holds", x.leaf(2 * number + 1, 2), (number + 1) % 24);
+        }
+        x.link(10, 8, 10);
+        x.leaves(0);
+        check.due("the last holds itself", x.leaf(47, 2), 23);
     }
 
     private static void leavesOfRows() {
@@ -306,6 +330,85 @@ public final class LeavesEdgesTest {
             check.due("field " + field, x.cls(7), Check.NONE);
         }
         check.due("row", x.length(2), Check.NOTHING);
+    }
+
+    /** An OBJECT with a FIELD that is 1 is made again, after the VALUE of its LEAF became another. */
+    private static void madeWith(int cls, int field, long given, long told) {
+        FieldLeaves x = new FieldLeaves();
+        x.make(0, cls, 1);
+        x.set(0, field, 1);
+        x.leaves(0);
+        check.due("alter " + field, x.alter(1, given), 1);
+        check.due("kept as given", x.leaf(1, 2), given);
+        check.due("back with " + field + " of " + given, x.back(1), 1);
+        check.due("made with " + field + " of " + given, x.get(1, field), told);
+    }
+
+    private static void madeByLowestBits() {
+        check.says(Check.TERMS, "they are given by their lowest bits likewise");
+        madeWith(Check.BASE, 0, 2, 0);
+        madeWith(Check.BASE, 0, -1, 1);
+        madeWith(Check.BASE, 1, 128, -128);
+        madeWith(Check.BASE, 1, -129, 127);
+        madeWith(Check.BASE, 2, 32768, -32768);
+        madeWith(Check.BASE, 2, -32769, 32767);
+        madeWith(Check.BASE, 3, 65535, 65535);
+        madeWith(Check.BASE, 3, -1, 65535);
+        madeWith(Check.BASE, 4, 1L << 31, LEAST);
+        madeWith(Check.BASE, 4, 1L << 32, 0);
+        madeWith(Check.BASE, 5, Long.MIN_VALUE, Long.MIN_VALUE);
+        madeWith(Check.BASE, 6, 0x1_7f800000L, 0x7f800000L);
+        madeWith(Check.BASE, 6, 0xff800001L, 0x7fc00000L);
+        madeWith(Check.BASE, 7, 0xfff0000000000000L, 0xfff0000000000000L);
+        madeWith(Check.BASE, 7, -1, NO_DOUBLE);
+        madeWith(Check.MIDDLE, 10, (1L << 32) - 7, -7);
+        madeWith(Check.STRAY, 14, 0x7ff0000000000001L, NO_DOUBLE);
+        madeWith(Check.TIP, 12, Long.MAX_VALUE, Long.MAX_VALUE);
+        madeWith(Check.TIP, 13, (1L << 32) + 1000, 1000);
+        madeWith(Check.SIGNAL, 16, (1L << 32) - 3, -3);
+        for (int field = 0; field <= 7; field++) {
+            madeWith(Check.TIP, field, 0, 0);
+        }
+    }
+
+    private static void madeWithRows() {
+        check.says(Check.TERMS, "then what they hold, by LEAVES in order");
+        for (int n : new int[] {0, 1, 20}) {
+            FieldLeaves x = Check.oneOfEach(0);
+            x.row(0, n);
+            x.leaves(0);
+            long[] given = {LEAST, MOST, 1L << 32, (1L << 32) - 6, 0};
+            for (int i = 0; i < n; i++) {
+                check.due("alter place " + i, x.alter(2 + i, given[i % 5]), 1);
+            }
+            check.due("back of " + n, x.back(5), 1);
+            check.due("length of " + n, x.length(5), n);
+            for (int i = 0; i < n; i++) {
+                check.due("int " + i + " of " + n, x.put(5, i, 9), (int) given[i % 5]);
+                check.due("int " + i + " of the other row", x.put(0, i, 0), 0);
+            }
+            check.due("back of " + n + " again", x.back(6), 1);
+            for (int i = 0; i < n; i++) {
+                check.due("int " + i + " of a row of its own", x.put(6, i, 9), (int) given[i % 5]);
+            }
+        }
+    }
+
+    private static void madeWithLinks() {
+        check.says(Check.TERMS, "then what they hold, by LEAVES in order");
+        FieldLeaves x = new FieldLeaves();
+        four(x);
+        x.back(9);
+        x.follow(9, 15, 10);
+        check.due("15 of 0", x.cls(10), Check.TIP);
+        check.due("mark of 1", x.get(10, 13), 6);
+        x.follow(10, 8, 8);
+        check.due("8 of 1", x.cls(8), Check.BASE);
+        x.follow(10, 11, 7);
+        check.due("11 of 1", x.get(7, 13), 5);
+        x.follow(7, 11, 6);
+        check.due("11 of 3, one that was made before it", x.same(6, 10), 1);
+        check.due("none of those that were told", x.same(10, 2), 0);
     }
 
     private static void leavesInPlace() {
@@ -498,6 +601,8 @@ public final class LeavesEdgesTest {
     private static void backFails(String name, long due, long... altered) {
         Twins past = new Twins(check, x -> {
             four(x);
+            // What an earlier back made is not touched, either.
+            x.back(5);
             for (int i = 0; i < altered.length; i += 2) {
                 x.alter((int) altered[i], altered[i + 1]);
             }
@@ -626,6 +731,7 @@ public final class LeavesEdgesTest {
             int of = s;
             twins.same("NOTHING and " + s, 0, x -> x.equal(9, of));
             twins.same(s + " and NOTHING", 0, x -> x.equal(of, 9));
+            twins.same("NOTHING behind equal ones", 1, x -> x.equal(of, of) + x.equal(of, 9) + x.equal(9, of));
         }
     }
 

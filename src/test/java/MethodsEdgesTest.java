@@ -24,6 +24,7 @@ public final class MethodsEdgesTest {
         raiseMayBeBad();
         raiseFails();
         passes();
+        passesAnswersCode();
         passesMayBeBad();
         passesFails();
         passed();
@@ -61,6 +62,8 @@ public final class MethodsEdgesTest {
         check.due("name below the least", name(Check.MIDDLE, 0, -214748365, -9), MOST);
         check.due("10 times runs over", name(Check.MIDDLE, 0, 214748364, 0), LEAST + 2);
         check.due("1 more runs over", name(Check.MIDDLE, 0, MOST, 5), 5);
+        check.due("the most of its own", name(Check.MIDDLE, 0, 0, MOST), LEAST + 9);
+        check.due("the least of its own", name(Check.MIDDLE, 0, -2, LEAST), MOST - 9);
     }
 
     private static void nameOfTip() {
@@ -82,7 +85,8 @@ public final class MethodsEdgesTest {
     }
 
     private static void depthByFields() {
-        check.says(Check.TERMS, "by 8 of a BASE, by 11 of a MIDDLE or TIP, by 15 of a STRAY");
+        check.says(Check.TERMS, "else 1 more than that of what it leads to: "
+                + "by 8 of a BASE, by 11 of a MIDDLE or TIP, by 15 of a STRAY");
         FieldLeaves x = Check.oneOfEach(0);
         for (int s : new int[] {1, 2}) {
             x.link(s, 8, s);
@@ -178,6 +182,12 @@ public final class MethodsEdgesTest {
 
     private static void callOfBaseAndBelow() {
         check.says(16, "NAME (what = 0), SECRET (1): of a BASE and what is below");
+        for (int s = Check.BASE; s <= Check.TIP; s++) {
+            FieldLeaves x = Check.oneOfEach(0);
+            check.due("name of " + s, x.call(s, NAME), s == Check.BASE ? 1 : 10);
+            check.due("secret of " + s, x.call(s, SECRET), 0);
+        }
+        check.says(16, "FAILURES 4, 1");
         for (int what : new int[] {NAME, SECRET, NAME_OF_8}) {
             twins.same("call " + what + " of a STRAY", Check.CLASS, x -> x.call(3, what));
             twins.same("call " + what + " of a SIGNAL", Check.CLASS, x -> x.call(4, what));
@@ -187,12 +197,13 @@ public final class MethodsEdgesTest {
 
     private static void callOfLinked() {
         check.says(16, "DEPTH (2), KIND (3) of a LINKED");
+        twins.same("depth of a STRAY", 50, x -> x.call(3, DEPTH));
+        twins.same("kind of a STRAY", 7, x -> x.call(3, KIND));
+        check.says(16, "FAILURES 4, 1");
         for (int what : new int[] {DEPTH, KIND}) {
             twins.same("call " + what + " of a SIGNAL", Check.CLASS, x -> x.call(4, what));
             twins.same("call " + what + " of NOTHING", Check.NOTHING, x -> x.call(11, what));
         }
-        twins.same("depth of a STRAY", 50, x -> x.call(3, DEPTH));
-        twins.same("kind of a STRAY", 7, x -> x.call(3, KIND));
     }
 
     private static void nameOfEight() {
@@ -268,6 +279,18 @@ public final class MethodsEdgesTest {
             twins.same("passes " + n, Check.BAD, y -> y.passes(4, n));
             twins.same("passes " + n + " of NOTHING", Check.BAD, y -> y.passes(9, n));
             twins.same("passes " + n + " of a BASE", Check.BAD, y -> y.passes(0, n));
+        }
+    }
+
+    private static void passesAnswersCode() {
+        check.says(18, "comes it back or not; the outermost one answers its code");
+        FieldLeaves x = new FieldLeaves();
+        for (int code : new int[] {0, 1, 12, LEAST, MOST}) {
+            x.make(11, Check.SIGNAL, code);
+            for (int n : new int[] {1, 12}) {
+                check.due("passes " + n + " with " + code, x.passes(11, n), code);
+                check.due("passed " + n + " with " + code, x.passed(), n);
+            }
         }
     }
 
