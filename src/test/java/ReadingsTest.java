@@ -1,4 +1,4 @@
-/** What was chosen where the document's words leave room; a test of its own, so that a choice is changed in one place. */
+/** What was chosen where the document's words leave room, apart from what they say plainly; Machine chooses likewise. */
 public final class ReadingsTest {
     private static final Check check = new Check();
 
