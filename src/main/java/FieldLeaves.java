@@ -39,6 +39,16 @@ public final class FieldLeaves {
     private static final int CODE = 16;
     private static final int FIELDS = 17;
 
+    private static final int CALL_NAME = 0;
+    private static final int CALL_SECRET = 1;
+    private static final int CALL_DEPTH = 2;
+    private static final int CALL_KIND = 3;
+    private static final int CALL_NAME_OF_LINK = 4;
+
+    private static final int LEAF_NUMBER = 0;
+    private static final int LEAF_FIELD = 1;
+    private static final int LEAF_VALUE = 2;
+
     private static final int CLASS_LEAF = -1;
     private static final int FIRST_PLACE = 100;
 
@@ -403,22 +413,22 @@ public final class FieldLeaves {
     }
 
     public int call(int s, int what) {
-        if (!isSlot(s) || what < 0 || what > 4) {
+        if (!isSlot(s) || what < CALL_NAME || what > CALL_NAME_OF_LINK) {
             return BAD;
         }
         Thing thing = slots[s];
-        int failure = failureAs(thing, what == 2 || what == 3 ? LINKED : BASE);
+        int failure = failureAs(thing, what == CALL_DEPTH || what == CALL_KIND ? LINKED : BASE);
         if (failure != NO_FAILURE) {
             return failure;
         }
         switch (what) {
-            case 0:
+            case CALL_NAME:
                 return thing.name();
-            case 1:
+            case CALL_SECRET:
                 return thing.secret();
-            case 2:
+            case CALL_DEPTH:
                 return thing.depth();
-            case 3:
+            case CALL_KIND:
                 return thing.kind();
             default:
                 return thing.baseLink == null ? FAILS_NOTHING : thing.baseLink.name();
@@ -460,13 +470,13 @@ public final class FieldLeaves {
     }
 
     public long leaf(int k, int what) {
-        if (!current.has(k) || what < 0 || what > 2) {
+        if (!current.has(k) || what < LEAF_NUMBER || what > LEAF_VALUE) {
             return BAD;
         }
-        if (what == 0) {
+        if (what == LEAF_NUMBER) {
             return current.numbers[k];
         }
-        return what == 1 ? current.fields[k] : current.values[k];
+        return what == LEAF_FIELD ? current.fields[k] : current.values[k];
     }
 
     public int alter(int k, long v) {
@@ -630,7 +640,7 @@ public final class FieldLeaves {
 
     private static boolean differInInts(int[] one, int[] other) {
         if (one == null || other == null) {
-            return one != other;
+            return one != null || other != null;
         }
         if (one.length != other.length) {
             return true;

@@ -23,9 +23,13 @@ public final class LanguageTest {
     };
     private static final String[] NOT_THERE = {
         "\\b(throw|throws|try|catch|finally|synchronized|assert)\\b", "\\b(package|protected)\\b",
-        "\\b(hashCode|Float|Double|Object|Thread|Random)\\b", "\\w+Exact\\s*\\(", "::", "\\bSystem\\.(?!arraycopy\\b)",
+        "\\b(hashCode|Float|Double|Object|Thread|Random)\\b", "\\bstatic\\s*\\{",
+        "\\w+Exact\\s*\\(", "::", "\\bSystem\\.(?!arraycopy\\b)",
         "\\bimport (?!java\\.util\\.(ArrayList|List|Arrays|Iterator);)", "(?m)^(?!.*\\b(case|default)\\b).*->"
     };
+
+    private static final Set<Class<?>> CONSTANTS = Set.of(int.class, long.class, boolean.class, char.class,
+            String.class, int[].class, long[].class, char[].class, byte[].class);
 
     private static final Check check = new Check();
 
@@ -33,11 +37,16 @@ public final class LanguageTest {
         face();
         constants();
         members(FieldLeaves.class);
-        for (Class<?> inside : FieldLeaves.class.getDeclaredClasses()) {
+        Class<?>[] all = FieldLeaves.class.getDeclaredClasses();
+        check.due("at most twelve classes", all.length < 12 ? 1 : 0, 1);
+        limits(FieldLeaves.class);
+        for (Class<?> inside : all) {
             check.due(inside + " is static", Modifier.isStatic(inside.getModifiers()) ? 1 : 0, 1);
             staticFieldsAreFinal(inside);
+            limits(inside);
         }
         source();
+        shortMethods();
         check.end();
     }
 
@@ -90,8 +99,34 @@ public final class LanguageTest {
     private static void staticFieldsAreFinal(Class<?> of) {
         for (Field field : of.getDeclaredFields()) {
             int modifiers = field.getModifiers();
-            check.due("final: " + field, !Modifier.isStatic(modifiers) || Modifier.isFinal(modifiers) ? 1 : 0, 1);
+            if (Modifier.isStatic(modifiers)) {
+                check.due("final: " + field, Modifier.isFinal(modifiers) ? 1 : 0, 1);
+                check.due("a type that a constant may have: " + field, CONSTANTS.contains(field.getType()) ? 1 : 0, 1);
+            }
         }
+    }
+
+    private static void limits(Class<?> of) {
+        for (Method method : of.getDeclaredMethods()) {
+            check.due("at most seven parameters: " + method, method.getParameterCount() <= 7 ? 1 : 0, 1);
+        }
+        long fields = Arrays.stream(of.getDeclaredFields()).filter(f -> !Modifier.isStatic(f.getModifiers())).count();
+        check.due("at most twenty fields: " + of, fields <= 20 ? 1 : 0, 1);
+    }
+
+    /** A method ends at the first brace that stands as far in as its first line. */
+    private static void shortMethods() throws Exception {
+        Matcher matcher = Pattern.compile("(?ms)^( {4}| {8})(\\w[^\n;={]*\\([^\n;]*\\) \\{)\n.*?^\\1\\}$")
+                .matcher(Files.readString(SOURCE));
+        int methods = 0;
+        int from = 0;
+        while (matcher.find(from)) {
+            methods++;
+            long lines = matcher.group().lines().count();
+            check.due("at most sixty lines: " + matcher.group(2), lines <= 60 ? 1 : 0, 1);
+            from = matcher.end();
+        }
+        check.due("methods were found", methods > FACE.length ? 1 : 0, 1);
     }
 
     private static void source() throws Exception {
